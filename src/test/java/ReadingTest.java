@@ -1,0 +1,414 @@
+/** Promises 7 to 25: what is read of versions, pages and houses. */
+final class ReadingTest {
+    private static final int[] FAR = {Integer.MIN_VALUE, -1, Integer.MAX_VALUE};
+
+    public static void main(String[] args) {
+        ledger();
+        amount();
+        sums();
+        sumsOfAllSpans();
+        most();
+        reached();
+        versionOf();
+        maker();
+        had();
+        since();
+        common();
+        apart();
+        shared();
+        isOf();
+        users();
+        wouldMake();
+        alike();
+        richest();
+        busiest();
+        wrongVersions();
+        wrongLines();
+        Check.end("ReadingTest");
+    }
+
+    /** The versions 1 to 4 in a tree: 1 and 2 of the house 0, 3 from 2 by the house 1, 4 from 1 by the house 0. */
+    private static AbbeyLedgers tree() {
+        AbbeyLedgers x = new AbbeyLedgers();
+        x.write(0, 3, 120);
+        x.write(0, 15, 7);
+        x.fork(1, 0);
+        x.pass(2);
+        x.write(1, 3, 5);
+        x.back(0, 1);
+        x.write(0, 4, 9);
+        return x;
+    }
+
+    private static AbbeyLedgers stairs() {
+        AbbeyLedgers x = new AbbeyLedgers();
+        for (int line = 0; line < 16; line++) {
+            x.write(0, line, 1 << line % 9);
+        }
+        return x;
+    }
+
+    private static void ledger() {
+        AbbeyLedgers x = tree();
+        Check.same("ledgers", Check.ledgers(x), "4 3 0 0");
+        for (int far : FAR) {
+            Check.noIndex("ledger", x, () -> x.ledger(far));
+        }
+        Check.noIndex("ledger(4)", x, () -> x.ledger(4));
+    }
+
+    private static void amount() {
+        AbbeyLedgers x = tree();
+        Check.same("amount(2, 3)", x.amount(2, 3), 120);
+        Check.same("amount(3, 3)", x.amount(3, 3), 5);
+        Check.same("amount(3, 15)", x.amount(3, 15), 7);
+        Check.same("amount(4, 15)", x.amount(4, 15), 0);
+        Check.same("amount(0, 3)", x.amount(0, 3), 0);
+    }
+
+    private static void sums() {
+        AbbeyLedgers x = tree();
+        Check.same("sum", x.sum(2, 0, 15), 127);
+        Check.same("sum", x.sum(2, 3, 14), 120);
+        Check.same("sum", x.sum(2, 4, 14), 0);
+        Check.same("sum", x.sum(2, 15, 15), 7);
+        Check.same("sumAgain", x.sumAgain(2, 0, 15), 127);
+        Check.same("sumAgain", x.sumAgain(2, 3, 14), 120);
+        Check.same("sumAgain", x.sumAgain(2, 4, 14), 0);
+        Check.same("sumAgain", x.sumAgain(2, 15, 15), 7);
+        AbbeyLedgers rich = new AbbeyLedgers();
+        for (int line = 0; line < 16; line++) {
+            rich.write(2, line, 999);
+        }
+        Check.same("the greatest sum", rich.sum(16, 0, 15), 15984);
+        Check.same("the greatest sum", rich.sumAgain(16, 0, 15), 15984);
+    }
+
+    private static void sumsOfAllSpans() {
+        AbbeyLedgers x = stairs();
+        for (int first = 0; first < 16; first++) {
+            int due = 0;
+            for (int last = first; last < 16; last++) {
+                due += 1 << last % 9;
+                Check.same("sum(16, " + first + ", " + last + ")", x.sum(16, first, last), due);
+                Check.same("sumAgain(16, " + first + ", " + last + ")", x.sumAgain(16, first, last), due);
+            }
+        }
+    }
+
+    private static void most() {
+        AbbeyLedgers x = new AbbeyLedgers();
+        x.write(0, 3, 50);
+        x.write(0, 7, 50);
+        x.write(0, 8, 60);
+        Check.same("most of all", x.most(3, 0, 15), 8);
+        Check.same("most of several", x.most(3, 0, 7), 3);
+        Check.same("most from within", x.most(3, 4, 7), 7);
+        Check.same("most ahead of it", x.most(3, 0, 2), 0);
+        Check.same("most behind it", x.most(3, 9, 15), 9);
+        Check.same("most of one", x.most(3, 5, 5), 5);
+        Check.same("most at the end", x.most(3, 3, 8), 8);
+        Check.same("most of an old version", x.most(1, 0, 15), 3);
+        Check.same("most of nothing", x.most(0, 0, 15), 0);
+    }
+
+    private static void reached() {
+        AbbeyLedgers x = new AbbeyLedgers();
+        x.write(0, 2, 10);
+        x.write(0, 9, 20);
+        Check.same("reached", x.reached(2, Integer.MIN_VALUE), 0);
+        Check.same("reached", x.reached(2, -1), 0);
+        Check.same("reached", x.reached(2, 0), 0);
+        Check.same("reached", x.reached(2, 1), 2);
+        Check.same("reached", x.reached(2, 10), 2);
+        Check.same("reached", x.reached(2, 11), 9);
+        Check.same("reached", x.reached(2, 30), 9);
+        Check.noElement("reached(2, 31)", x, () -> x.reached(2, 31));
+        Check.noElement("reached(1, 11)", x, () -> x.reached(1, 11));
+        Check.noElement("reached(2, much)", x, () -> x.reached(2, Integer.MAX_VALUE));
+        Check.noElement("reached(0, 1)", x, () -> x.reached(0, 1));
+        x.write(0, 15, 1);
+        Check.same("reached at the end", x.reached(3, 31), 15);
+        Check.noIndex("reached(4, 99)", x, () -> x.reached(4, 99));
+    }
+
+    private static String numbers(AbbeyLedgers x, int version) {
+        StringBuilder text = new StringBuilder();
+        for (int what = 0; what <= 6; what++) {
+            text.append(what == 0 ? "" : " ").append(x.versionOf(version, what));
+        }
+        return text.toString();
+    }
+
+    private static void versionOf() {
+        AbbeyLedgers x = tree();
+        Check.same("numbers of 0", numbers(x, 0), "-1 0 0 1 31 0 2");
+        Check.same("numbers of 1", numbers(x, 1), "0 0 1 2 5 1 0");
+        Check.same("numbers of 2", numbers(x, 2), "1 0 2 1 5 1 0");
+        Check.same("numbers of 3", numbers(x, 3), "2 2 3 0 5 1 1");
+        Check.same("numbers of 4", numbers(x, 4), "1 2 2 0 5 1 1");
+        x.graft(2, 3, 0, 15);
+        x.fork(3, 2);
+        Check.same("numbers of 5", numbers(x, 5), "0 2 1 0 0 2 2");
+        Check.same("numbers of 0 then", numbers(x, 0), "-1 0 0 2 31 0 0");
+        for (int far : FAR) {
+            Check.noArgument("versionOf", x, () -> x.versionOf(0, far));
+            Check.noIndex("versionOf", x, () -> x.versionOf(6, far));
+        }
+        Check.noArgument("versionOf(0, 7)", x, () -> x.versionOf(0, 7));
+        Check.same("ancestors of the last", Check.full().versionOf(39, 2), 39);
+    }
+
+    private static void maker() {
+        AbbeyLedgers x = tree();
+        Check.same("makers", Check.makers(x, 3),
+            "3 3 2 3 0 0 2 0 3 0 0 0 0 0 2 0 0 0 3 0 0 0 0 0 0 0 0 0 0 0 2");
+        Check.same("makers", Check.makers(x, 4),
+            "4 4 0 1 4 0 0 0 1 4 0 0 0 0 0 0 0 0 1 4 0 0 0 0 0 0 0 0 0 0 0");
+        for (int far : FAR) {
+            Check.noArgument("maker", x, () -> x.maker(0, far));
+            Check.noIndex("maker", x, () -> x.maker(5, far));
+            Check.noArgument("users", x, () -> x.users(0, far));
+            Check.noIndex("users", x, () -> x.users(5, far));
+        }
+        Check.noArgument("maker(0, 31)", x, () -> x.maker(0, 31));
+        Check.noArgument("users(0, 31)", x, () -> x.users(0, 31));
+    }
+
+    private static void had() {
+        AbbeyLedgers x = tree();
+        Check.same("had(1, 0)", x.had(1, 0), 2);
+        Check.same("had(1, 1)", x.had(1, 1), 2);
+        Check.same("had(1, 2)", x.had(1, 2), 3);
+        Check.same("had(1, 99)", x.had(1, 99), 3);
+        Check.same("had(0, 1)", x.had(0, 1), 1);
+        Check.same("had(0, 2)", x.had(0, 2), 4);
+        Check.same("had(2, 50)", x.had(2, 50), 0);
+        AbbeyLedgers late = new AbbeyLedgers();
+        late.pass(5);
+        late.write(0, 0, 1);
+        late.write(0, 0, 2);
+        Check.same("had ahead of all", late.had(0, 4), 0);
+        Check.same("had, the latest of a year", late.had(0, 5), 2);
+        for (int far : FAR) {
+            Check.noIndex("had", x, () -> x.had(far, 0));
+            Check.noArgument("had", x, () -> x.had(0, far));
+            Check.noIndex("had", x, () -> x.had(4, far));
+        }
+        Check.noIndex("had(4, 0)", x, () -> x.had(4, 0));
+        Check.noArgument("had(0, 100)", x, () -> x.had(0, 100));
+    }
+
+    private static void since() {
+        AbbeyLedgers x = new AbbeyLedgers();
+        x.write(0, 0, 5);
+        x.write(0, 1, 5);
+        x.write(0, 0, 6);
+        x.write(0, 0, 5);
+        x.write(1, 7, 7);
+        x.write(0, 2, 8);
+        Check.same("since the value came again", x.since(6, 0), 4);
+        Check.same("since(4, 0)", x.since(4, 0), 4);
+        Check.same("since(3, 0)", x.since(3, 0), 3);
+        Check.same("since(2, 0)", x.since(2, 0), 1);
+        Check.same("since(6, 1)", x.since(6, 1), 2);
+        Check.same("since ever", x.since(6, 15), 0);
+        Check.same("since of another house", x.since(6, 7), 0);
+        Check.same("since(5, 7)", x.since(5, 7), 5);
+        Check.same("since(0, 0)", x.since(0, 0), 0);
+        Check.same("since, by a graft of the same amount", x.graft(1, 6, 0, 7), 7);
+        Check.same("since(7, 3)", x.since(7, 3), 0);
+        Check.same("since(7, 7)", x.since(7, 7), 7);
+        Check.same("since the start of all", Check.full().since(39, 1), 0);
+    }
+
+    private static void common() {
+        AbbeyLedgers x = tree();
+        Check.same("common(3, 4)", x.common(3, 4), 1);
+        Check.same("common(4, 3)", x.common(4, 3), 1);
+        Check.same("common(2, 3)", x.common(2, 3), 2);
+        Check.same("common(3, 2)", x.common(3, 2), 2);
+        Check.same("common(4, 4)", x.common(4, 4), 4);
+        Check.same("common(0, 4)", x.common(0, 4), 0);
+        x.write(2, 0, 1);
+        Check.same("common(5, 4)", x.common(5, 4), 0);
+        Check.same("common, far", Check.full().common(39, 0), 0);
+    }
+
+    private static void apart() {
+        AbbeyLedgers x = tree();
+        Check.same("apart(3, 4)", x.apart(3, 4), 3);
+        Check.same("apart(4, 3)", x.apart(4, 3), 3);
+        Check.same("apart(2, 1)", x.apart(2, 1), 1);
+        Check.same("apart(2, 2)", x.apart(2, 2), 0);
+        Check.same("apart(2, 0)", x.apart(2, 0), 2);
+        x.write(1, 3, 120);
+        Check.same("apart in no amount on one line", x.apart(5, 2), 0);
+    }
+
+    private static void shared() {
+        AbbeyLedgers x = tree();
+        Check.same("shared(3, 4)", x.shared(3, 4), 19);
+        Check.same("shared(4, 3)", x.shared(4, 3), 19);
+        Check.same("shared(3, 3)", x.shared(3, 3), 31);
+        Check.same("shared(1, 0)", x.shared(1, 0), 26);
+        x.graft(2, 3, 0, 7);
+        Check.same("shared(5, 3)", x.shared(5, 3), 26);
+        x.graft(3, 3, 0, 15);
+        Check.same("shared by a whole graft", x.shared(6, 3), 31);
+    }
+
+    private static void isOf() {
+        AbbeyLedgers x = tree();
+        Check.that("1 of 4", x.isOf(1, 4));
+        Check.that("4 not of 1", !x.isOf(4, 1));
+        Check.that("2 not of 4", !x.isOf(2, 4));
+        Check.that("0 of 3", x.isOf(0, 3));
+        Check.that("3 of 3", x.isOf(3, 3));
+        Check.that("2 of 3", x.isOf(2, 3));
+        Check.that("3 not of 4", !x.isOf(3, 4));
+    }
+
+    private static void users() {
+        AbbeyLedgers x = tree();
+        Check.same("users(0, 0)", x.users(0, 0), 1);
+        Check.same("users(1, 3)", x.users(1, 3), 3);
+        Check.same("users(2, 3)", x.users(2, 3), 3);
+        Check.same("users(3, 3)", x.users(3, 3), 1);
+        Check.same("users(0, 29)", x.users(0, 29), 5);
+        Check.same("users(4, 30)", x.users(4, 30), 3);
+        x.graft(2, 3, 0, 7);
+        Check.same("users(5, 1)", x.users(5, 1), 2);
+        Check.same("users(3, 1)", x.users(3, 1), 2);
+    }
+
+    private static void wouldMake() {
+        AbbeyLedgers x = new AbbeyLedgers();
+        Check.same("wouldMake(3, 3)", x.wouldMake(3, 3), 4);
+        Check.same("wouldMake(0, 0)", x.wouldMake(0, 0), 4);
+        Check.same("wouldMake(15, 15)", x.wouldMake(15, 15), 4);
+        Check.same("wouldMake(1, 14)", x.wouldMake(1, 14), 7);
+        Check.same("wouldMake(0, 15)", x.wouldMake(0, 15), 0);
+        Check.same("wouldMake(0, 7)", x.wouldMake(0, 7), 1);
+        Check.same("wouldMake(8, 15)", x.wouldMake(8, 15), 1);
+        Check.same("wouldMake(7, 8)", x.wouldMake(7, 8), 7);
+        Check.same("wouldMake(4, 5)", x.wouldMake(4, 5), 3);
+        Check.same("wouldMake(5, 6)", x.wouldMake(5, 6), 5);
+        for (int line = 0; line < 16; line++) {
+            x.write(0, line, line + 1);
+        }
+        for (int first = 0; first < 16; first++) {
+            for (int last = first; last < 16; last++) {
+                int version = x.graft(1, 16, first, last);
+                Check.same("wouldMake(" + first + ", " + last + ")", x.wouldMake(first, last),
+                    x.versionOf(version, 4));
+                x.undo();
+            }
+        }
+    }
+
+    private static void alike() {
+        AbbeyLedgers x = tree();
+        Check.same("alike(0)", x.alike(0), 0);
+        x.write(0, 4, 0);
+        Check.same("alike(5)", x.alike(5), 1);
+        Check.same("alike(1)", x.alike(1), 1);
+        x.write(2, 3, 120);
+        Check.same("alike(6)", x.alike(6), 2);
+        Check.same("alike(2)", x.alike(2), 0);
+        x.graft(3, 3, 0, 15);
+        Check.same("alike(3)", x.alike(3), 1);
+        Check.same("alike in no more than the sum", x.write(2, 3, 0), 8);
+        Check.same("alike(0) then", x.alike(0), 1);
+        x.write(2, 0, 120);
+        Check.same("alike(9)", x.alike(9), 0);
+    }
+
+    private static void richest() {
+        AbbeyLedgers x = tree();
+        Check.same("richest(0)", x.richest(0), 4);
+        Check.same("richest(1)", x.richest(1), 2);
+        Check.same("richest(2)", x.richest(2), 1);
+        Check.same("richest(3)", x.richest(3), 3);
+        Check.same("richest(4)", x.richest(4), 0);
+        x.write(2, 8, 120);
+        Check.same("of several the latest", x.richest(2), 5);
+        Check.same("of several the latest", x.richest(3), 1);
+        for (int far : FAR) {
+            Check.noElement("richest", x, () -> x.richest(far));
+        }
+        Check.noElement("richest(6)", x, () -> x.richest(6));
+        Check.same("richest(5)", x.richest(5), 0);
+    }
+
+    private static void busiest() {
+        AbbeyLedgers x = new AbbeyLedgers();
+        Check.noElement("busiest", x, () -> x.busiest());
+        x.write(0, 3, 1);
+        Check.same("the only one", x.busiest(), 1);
+        x.write(0, 3, 2);
+        Check.same("none has pages of others: the lowest", x.busiest(), 1);
+        x.write(0, 15, 3);
+        Check.same("2 has pages of others", x.busiest(), 2);
+        x.write(0, 15, 0);
+        x.write(0, 14, 4);
+        Check.same("of several the lowest", x.busiest(), 2);
+        x.graft(1, 5, 8, 15);
+        Check.same("5 has as many", x.busiest(), 2);
+        x.graft(2, 5, 0, 15);
+        Check.same("5 has all", x.busiest(), 5);
+        for (int i = 0; i < 4; i++) {
+            x.write(3, 0, i + 1);
+            x.write(3, 15, i + 1);
+        }
+        Check.same("a page of many users counts once", x.busiest(), 5);
+    }
+
+    private static void wrongVersions() {
+        AbbeyLedgers x = tree();
+        int[] none = {Integer.MIN_VALUE, -1, 5, 40, Integer.MAX_VALUE};
+        for (int v : none) {
+            Check.noIndex("amount", x, () -> x.amount(v, 16));
+            Check.noIndex("sum", x, () -> x.sum(v, 1, 0));
+            Check.noIndex("sumAgain", x, () -> x.sumAgain(v, 1, 0));
+            Check.noIndex("most", x, () -> x.most(v, 1, 0));
+            Check.noIndex("reached", x, () -> x.reached(v, 20000));
+            Check.noIndex("versionOf", x, () -> x.versionOf(v, 7));
+            Check.noIndex("maker", x, () -> x.maker(v, 31));
+            Check.noIndex("since", x, () -> x.since(v, 16));
+            Check.noIndex("common", x, () -> x.common(v, 0));
+            Check.noIndex("common", x, () -> x.common(0, v));
+            Check.noIndex("apart", x, () -> x.apart(v, 0));
+            Check.noIndex("apart", x, () -> x.apart(0, v));
+            Check.noIndex("shared", x, () -> x.shared(v, 0));
+            Check.noIndex("shared", x, () -> x.shared(0, v));
+            Check.noIndex("isOf", x, () -> x.isOf(v, 0));
+            Check.noIndex("isOf", x, () -> x.isOf(0, v));
+            Check.noIndex("users", x, () -> x.users(v, 31));
+            Check.noIndex("alike", x, () -> x.alike(v));
+        }
+        x.undo();
+        Check.noIndex("amount of one undone", x, () -> x.amount(4, 0));
+    }
+
+    private static void wrongLines() {
+        AbbeyLedgers x = tree();
+        int[] none = {Integer.MIN_VALUE, -1, 16, Integer.MAX_VALUE};
+        for (int line : none) {
+            Check.noArgument("amount", x, () -> x.amount(1, line));
+            Check.noArgument("since", x, () -> x.since(1, line));
+            wrongSpan(x, line, 15);
+            wrongSpan(x, 0, line);
+        }
+        wrongSpan(x, 1, 0);
+        wrongSpan(x, 15, 0);
+        wrongSpan(x, 15, 14);
+    }
+
+    private static void wrongSpan(AbbeyLedgers x, int first, int last) {
+        Check.noArgument("sum", x, () -> x.sum(1, first, last));
+        Check.noArgument("sumAgain", x, () -> x.sumAgain(1, first, last));
+        Check.noArgument("most", x, () -> x.most(1, first, last));
+        Check.noArgument("wouldMake", x, () -> x.wouldMake(first, last));
+    }
+}
