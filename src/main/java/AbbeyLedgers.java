@@ -997,7 +997,6 @@ public final class AbbeyLedgers {
 
         void clear() {
             length = 0;
-            position = 0;
         }
 
         void rewind() {

@@ -29,6 +29,9 @@ final class LinesTest {
         x.write(0, 3, 100);
         x.write(0, 15, 0);
         Check.same("line", Check.lineOf(x, 6), "0=999,3=100,10=10");
+        x.write(0, 10, 99);
+        x.write(0, 0, 9);
+        Check.same("line", Check.lineOf(x, 8), "0=9,3=100,10=99");
         Check.same("in place of the one before", Check.lineOf(x, 0), "");
     }
 

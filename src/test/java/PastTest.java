@@ -154,7 +154,7 @@ final class PastTest {
         x.undo();
         x.pass(9);
         x.write(2, 7, 1);
-        x.write(2, 8, 2);
+        x.write(3, 8, 2);
         x.write(2, 9, 3);
         Check.same("restore", x.restore(), 3);
         Check.same("amounts", Check.amounts(x, 2), amounts);

@@ -294,6 +294,13 @@ final class ReadingTest {
         Check.same("wouldMake(7, 8)", x.wouldMake(7, 8), 7);
         Check.same("wouldMake(4, 5)", x.wouldMake(4, 5), 3);
         Check.same("wouldMake(5, 6)", x.wouldMake(5, 6), 5);
+        int larger = 0;
+        for (int lines = 16; lines >= 1; lines /= 2) {
+            for (int first = 0; first < 16; first += lines) {
+                Check.same("wouldMake of a span", x.wouldMake(first, first + lines - 1), larger);
+            }
+            larger++;
+        }
         for (int line = 0; line < 16; line++) {
             x.write(0, line, line + 1);
         }
@@ -320,6 +327,7 @@ final class ReadingTest {
         Check.same("alike(3)", x.alike(3), 1);
         Check.same("alike in no more than the sum", x.write(2, 3, 0), 8);
         Check.same("alike(0) then", x.alike(0), 1);
+        Check.same("alike(8)", x.alike(8), 1);
         x.write(2, 0, 120);
         Check.same("alike(9)", x.alike(9), 0);
     }
@@ -362,6 +370,11 @@ final class ReadingTest {
             x.write(3, 15, i + 1);
         }
         Check.same("a page of many users counts once", x.busiest(), 5);
+        AbbeyLedgers y = new AbbeyLedgers();
+        y.write(0, 3, 1);
+        y.write(1, 3, 2);
+        y.graft(2, 2, 3, 3);
+        Check.same("a single page", y.busiest(), 2);
     }
 
     private static void wrongVersions() {
