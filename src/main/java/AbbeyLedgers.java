@@ -86,9 +86,7 @@ public final class AbbeyLedgers {
 
     public int amount(int version, int line) throws IndexOutOfBoundsException, IllegalArgumentException {
         checkVersion(version);
-        if (!isLine(line)) {
-            throw new IllegalArgumentException("no such line");
-        }
+        checkLines(line, line);
         return versions.amountOn(version, line);
     }
 
@@ -150,9 +148,7 @@ public final class AbbeyLedgers {
 
     public int since(int version, int line) throws IndexOutOfBoundsException, IllegalArgumentException {
         checkVersion(version);
-        if (!isLine(line)) {
-            throw new IllegalArgumentException("no such line");
-        }
+        checkLines(line, line);
         return versions.earliestWithAmountOf(version, line);
     }
 
@@ -165,7 +161,7 @@ public final class AbbeyLedgers {
     public int apart(int one, int other) throws IndexOutOfBoundsException {
         checkVersion(one);
         checkVersion(other);
-        return versions.linesApart(one, other);
+        return versions.linesApart(one, other, 0, LINES - 1);
     }
 
     public int shared(int one, int other) throws IndexOutOfBoundsException {
@@ -622,32 +618,23 @@ public final class AbbeyLedgers {
 
         int linesNewIn(int version) {
             int parent = parentOf(version);
-            return parent == NONE ? 0 : linesApart(version, parent);
+            return parent == NONE ? 0 : linesApart(version, parent, 0, LINES - 1);
         }
 
-        int linesApart(int one, int other) {
+        int linesApart(int one, int other, int first, int last) {
             int lines = 0;
             for (int line = 0; line < LINES; line++) {
-                if (amountOn(one, line) != amountOn(other, line)) {
+                if (line >= first && line <= last && amountOn(one, line) != amountOn(other, line)) {
                     lines++;
                 }
             }
             return lines;
         }
 
-        boolean isSameFrom(int one, int other, int first, int last) {
-            for (int line = 0; line < LINES; line++) {
-                if (line >= first && line <= last && amountOn(one, line) != amountOn(other, line)) {
-                    return false;
-                }
-            }
-            return true;
-        }
-
         int othersAlike(int version) {
             int found = 0;
             for (int other = 0; other < count; other++) {
-                if (other != version && linesApart(version, other) == 0) {
+                if (other != version && linesApart(version, other, 0, LINES - 1) == 0) {
                     found++;
                 }
             }
@@ -919,7 +906,7 @@ public final class AbbeyLedgers {
                 return refusal.refuse(LINES_TURNED_ROUND, first - last);
             }
             int ledger = books.ledgerOf(house);
-            if (versions.isSameFrom(ledger, version, first, last)) {
+            if (versions.linesApart(ledger, version, first, last) == 0) {
                 return refusal.refuse(SO_ALREADY, ledger);
             }
             if (versions.isFull()) {

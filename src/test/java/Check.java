@@ -28,6 +28,11 @@ final class Check {
     /** The call throws this very exception, and what can be seen of the object stays. */
     private static void fails(String what, AbbeyLedgers x, Class<?> kind, Runnable call) {
         String before = seen(x);
+        throwsIt(what, kind, call);
+        same("what is seen after " + what, seen(x), before);
+    }
+
+    private static void throwsIt(String what, Class<?> kind, Runnable call) {
         Class<?> thrown = null;
         try {
             call.run();
@@ -35,7 +40,6 @@ final class Check {
             thrown = e.getClass();
         }
         that(what + " threw " + thrown + ", due is " + kind, thrown == kind);
-        same("what is seen after " + what, seen(x), before);
     }
 
     static void noIndex(String what, AbbeyLedgers x, Runnable call) {
@@ -63,16 +67,10 @@ final class Check {
 
     /** The text is refused; the buffer is empty before. */
     static void textRefused(AbbeyLedgers x, String text, int why, int detail, int command) {
-        String before = seen(x);
+        String empty = seen(x);
         fill(x, text);
-        Class<?> thrown = null;
-        try {
-            x.commands();
-        } catch (RuntimeException e) {
-            thrown = e.getClass();
-        }
-        that(text + " threw " + thrown, thrown == UnsupportedOperationException.class);
-        same("what is seen after " + text, seen(x), before);
+        throwsIt(text, UnsupportedOperationException.class, () -> x.commands());
+        same("what is seen after " + text, seen(x), empty);
         same("reason of " + text, x.reason(0), why);
         same("detail of " + text, x.reason(1), detail);
         same("command of " + text, x.reason(2), command);
@@ -81,16 +79,10 @@ final class Check {
 
     /** The text has a fault; the buffer is empty before. */
     static void textFails(AbbeyLedgers x, String text, int fault) {
-        String before = seen(x);
+        String empty = seen(x);
         fill(x, text);
-        Class<?> thrown = null;
-        try {
-            x.commands();
-        } catch (RuntimeException e) {
-            thrown = e.getClass();
-        }
-        that(text + " threw " + thrown, thrown == IllegalArgumentException.class);
-        same("what is seen after " + text, seen(x), before);
+        throwsIt(text, IllegalArgumentException.class, () -> x.commands());
+        same("what is seen after " + text, seen(x), empty);
         same("fault of " + text, x.faultPosition(), fault);
     }
 

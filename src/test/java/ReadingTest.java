@@ -157,6 +157,7 @@ final class ReadingTest {
         }
         Check.noArgument("versionOf(0, 7)", x, () -> x.versionOf(0, 7));
         Check.same("ancestors of the last", Check.full().versionOf(39, 2), 39);
+        Check.same("new lines of the last", Check.full().versionOf(39, 5), 1);
     }
 
     private static void maker() {
@@ -244,6 +245,8 @@ final class ReadingTest {
         Check.same("apart(2, 0)", x.apart(2, 0), 2);
         x.write(1, 3, 120);
         Check.same("apart in no amount on one line", x.apart(5, 2), 0);
+        Check.same("apart on the line 0", Check.full().apart(39, 0), 1);
+        Check.same("apart on the line 15", x.apart(1, 2), 1);
     }
 
     private static void shared() {
