@@ -1,11 +1,19 @@
 import java.util.NoSuchElementException;
+import java.util.function.Consumer;
+import java.util.function.Supplier;
 
 /** Counts what holds and what does not, and tells the latter. */
 final class Check {
     private static int passed = 0;
     private static int failed = 0;
+    private static String test = "";
 
     private Check() {
+    }
+
+    /** What is checked from here on belongs to this test. */
+    static void begin(String name) {
+        test = name + ": ";
     }
 
     static void that(String what, boolean holds) {
@@ -13,23 +21,24 @@ final class Check {
             passed++;
         } else {
             failed++;
-            System.out.println("does not hold: " + what);
+            System.out.println(test + "does not hold: " + what);
         }
     }
 
     static void same(String what, long got, long due) {
-        that(what + " answered " + got + ", due is " + due, got == due);
+        if (got == due) {
+            passed++;
+        } else {
+            that(what + " answered " + got + ", due is " + due, false);
+        }
     }
 
     static void same(String what, String got, String due) {
-        that(what + " answered <" + got + ">, due is <" + due + ">", got.equals(due));
-    }
-
-    /** The call throws this very exception, and what can be seen of the object stays. */
-    private static void fails(String what, AbbeyLedgers x, Class<?> kind, Runnable call) {
-        String before = seen(x);
-        throwsIt(what, kind, call);
-        same("what is seen after " + what, seen(x), before);
+        if (got.equals(due)) {
+            passed++;
+        } else {
+            that(what + " answered <" + got + ">, due is <" + due + ">", false);
+        }
     }
 
     private static void throwsIt(String what, Class<?> kind, Runnable call) {
@@ -42,129 +51,84 @@ final class Check {
         that(what + " threw " + thrown + ", due is " + kind, thrown == kind);
     }
 
-    static void noIndex(String what, AbbeyLedgers x, Runnable call) {
-        fails(what, x, IndexOutOfBoundsException.class, call);
+    /** The call throws this very exception, and leaves an object like one on which it was not tried. */
+    private static void fails(String what, Class<?> kind, Supplier<AbbeyLedgers> made, Consumer<AbbeyLedgers> call) {
+        AbbeyLedgers x = made.get();
+        throwsIt(what, kind, () -> call.accept(x));
+        same("reason after " + what, Seen.reason(x), Seen.reason(made.get()));
+        stays(what, x, made.get());
     }
 
-    static void noArgument(String what, AbbeyLedgers x, Runnable call) {
-        fails(what, x, IllegalArgumentException.class, call);
+    private static void stays(String what, AbbeyLedgers x, AbbeyLedgers untried) {
+        same("fault after " + what, x.faultPosition(), untried.faultPosition());
+        staysButForTheFault(what, x, untried);
     }
 
-    static void noElement(String what, AbbeyLedgers x, Runnable call) {
-        fails(what, x, NoSuchElementException.class, call);
+    private static void staysButForTheFault(String what, AbbeyLedgers x, AbbeyLedgers untried) {
+        same("state after " + what, Seen.state(x), Seen.state(untried));
+        same("line after " + what, Seen.line(x), Seen.line(untried));
+        same("what is hidden after " + what, Seen.hidden(x), Seen.hidden(untried));
     }
 
-    static void noState(String what, AbbeyLedgers x, Runnable call) {
-        fails(what, x, IllegalStateException.class, call);
+    static void noIndex(String what, Supplier<AbbeyLedgers> made, Consumer<AbbeyLedgers> call) {
+        fails(what, IndexOutOfBoundsException.class, made, call);
     }
 
-    static void refused(String what, AbbeyLedgers x, int why, int detail, Runnable call) {
-        fails(what, x, UnsupportedOperationException.class, call);
-        same("reason of " + what, x.reason(0), why);
-        same("detail of " + what, x.reason(1), detail);
-        same("command of " + what, x.reason(2), 0);
+    static void noArgument(String what, Supplier<AbbeyLedgers> made, Consumer<AbbeyLedgers> call) {
+        fails(what, IllegalArgumentException.class, made, call);
     }
 
-    /** The text is refused; the buffer is empty before. */
-    static void textRefused(AbbeyLedgers x, String text, int why, int detail, int command) {
-        String empty = seen(x);
-        fill(x, text);
+    static void noElement(String what, Supplier<AbbeyLedgers> made, Consumer<AbbeyLedgers> call) {
+        fails(what, NoSuchElementException.class, made, call);
+    }
+
+    static void noState(String what, Supplier<AbbeyLedgers> made, Consumer<AbbeyLedgers> call) {
+        fails(what, IllegalStateException.class, made, call);
+    }
+
+    static void refused(String what, int why, int detail, Supplier<AbbeyLedgers> made, Consumer<AbbeyLedgers> call) {
+        AbbeyLedgers x = made.get();
+        throwsIt(what, UnsupportedOperationException.class, () -> call.accept(x));
+        same("reason of " + what, Seen.reason(x), why + " " + detail + " 0");
+        stays(what, x, made.get());
+    }
+
+    /** The text is refused as a whole; the buffer of what is made is empty. */
+    static void textRefused(String text, int why, int detail, int command, Supplier<AbbeyLedgers> made) {
+        AbbeyLedgers x = made.get();
+        Samples.fill(x, text);
         throwsIt(text, UnsupportedOperationException.class, () -> x.commands());
-        same("what is seen after " + text, seen(x), empty);
-        same("reason of " + text, x.reason(0), why);
-        same("detail of " + text, x.reason(1), detail);
-        same("command of " + text, x.reason(2), command);
+        same("reason of " + text, Seen.reason(x), why + " " + detail + " " + command);
         same("fault of " + text, x.faultPosition(), -1);
+        staysButForTheFault(text, x, made.get());
     }
 
-    /** The text has a fault; the buffer is empty before. */
-    static void textFails(AbbeyLedgers x, String text, int fault) {
-        String empty = seen(x);
-        fill(x, text);
+    /** The text has a fault there; the buffer of what is made is empty. */
+    static void textFails(String text, int fault, Supplier<AbbeyLedgers> made) {
+        AbbeyLedgers x = made.get();
+        Samples.fill(x, text);
         throwsIt(text, IllegalArgumentException.class, () -> x.commands());
-        same("what is seen after " + text, seen(x), empty);
+        same("reason after " + text, Seen.reason(x), Seen.reason(made.get()));
         same("fault of " + text, x.faultPosition(), fault);
-    }
-
-    static void fill(AbbeyLedgers x, String text) {
-        for (int i = 0; i < text.length(); i++) {
-            x.append(text.charAt(i));
-        }
-    }
-
-    static int run(AbbeyLedgers x, String text) {
-        fill(x, text);
-        return x.commands();
+        staysButForTheFault(text, x, made.get());
     }
 
     static String lineOf(AbbeyLedgers x, int version) {
-        return script(x, x.line(version));
+        return written(x, x.line(version));
     }
 
     static String lineageOf(AbbeyLedgers x, int version) {
-        return script(x, x.lineage(version));
+        return written(x, x.lineage(version));
     }
 
-    /** Reads a line of this length; one more character must not be there. */
-    static String script(AbbeyLedgers x, int length) {
-        StringBuilder text = new StringBuilder();
-        for (int i = 0; i < length; i++) {
-            text.append(x.character(i));
-        }
-        boolean ends = false;
-        try {
-            x.character(length);
-        } catch (IndexOutOfBoundsException e) {
-            ends = true;
-        }
-        that("a line of the length " + length + " ends", ends);
-        return text.toString();
+    private static String written(AbbeyLedgers x, int length) {
+        String line = Seen.line(x);
+        same("length of the line " + line, length, line.length());
+        return line;
     }
 
-    static String makers(AbbeyLedgers x, int version) {
-        StringBuilder text = new StringBuilder();
-        for (int span = 0; span < 31; span++) {
-            text.append(span == 0 ? "" : " ").append(x.maker(version, span));
-        }
-        return text.toString();
-    }
-
-    static String amounts(AbbeyLedgers x, int version) {
-        StringBuilder text = new StringBuilder();
-        for (int line = 0; line < 16; line++) {
-            text.append(line == 0 ? "" : " ").append(x.amount(version, line));
-        }
-        return text.toString();
-    }
-
-    static String ledgers(AbbeyLedgers x) {
-        return x.ledger(0) + " " + x.ledger(1) + " " + x.ledger(2) + " " + x.ledger(3);
-    }
-
-    /** All of the state but the line, the fault and the reason, by calls that change nothing. */
-    static String seen(AbbeyLedgers x) {
-        StringBuilder text = new StringBuilder(ledgers(x));
-        for (int what = 0; what <= 8; what++) {
-            text.append(' ').append(x.account(what));
-        }
-        for (int version = 0; version < x.account(0); version++) {
-            text.append('|').append(x.versionOf(version, 0)).append(' ').append(x.versionOf(version, 1));
-            text.append(' ').append(amounts(x, version)).append(' ').append(makers(x, version));
-        }
-        return text.toString();
-    }
-
-    /** Makes the versions 1 to 39 in a row: of the house 0, each with its number on the line 0. */
-    static AbbeyLedgers full() {
-        AbbeyLedgers x = new AbbeyLedgers();
-        for (int version = 1; version < 40; version++) {
-            x.write(0, 0, version);
-        }
-        return x;
-    }
-
-    static void end(String test) {
-        System.out.println(test + ": " + passed + " passed, " + failed + " failed");
+    static void end(String name) {
+        System.out.println(name + ": " + passed + " passed, " + failed + " failed");
         if (failed > 0) {
             System.exit(1);
         }

@@ -1,18 +1,12 @@
 /** Promises 30 to 35: the line, the mean, what was spared, and the accounts. */
 final class LinesTest {
-    private static final int[] NO_VERSION = {Integer.MIN_VALUE, -1, 3, 40, Integer.MAX_VALUE};
-
     public static void main(String[] args) {
         line();
-        longestLine();
         lineage();
-        longestLineage();
-        character();
         mean();
         spared();
         account();
         accountOfPages();
-        wrongOnes();
         Check.end("LinesTest");
     }
 
@@ -35,15 +29,6 @@ final class LinesTest {
         Check.same("in place of the one before", Check.lineOf(x, 0), "");
     }
 
-    private static void longestLine() {
-        AbbeyLedgers x = new AbbeyLedgers();
-        for (int line = 0; line < 16; line++) {
-            x.write(0, line, 901 + line);
-        }
-        Check.same("line", Check.lineOf(x, 16), "0=901,1=902,2=903,3=904,4=905,5=906,6=907,7=908,8=909,9=910,"
-            + "10=911,11=912,12=913,13=914,14=915,15=916");
-    }
-
     private static void lineage() {
         AbbeyLedgers x = new AbbeyLedgers();
         Check.same("lineage", Check.lineageOf(x, 0), "0");
@@ -54,35 +39,6 @@ final class LinesTest {
         Check.same("lineage", Check.lineageOf(x, 3), "3<1<0");
         Check.same("lineage of a graft", Check.lineageOf(x, 4), "4<2<0");
         Check.same("lineage", Check.lineageOf(x, 1), "1<0");
-    }
-
-    private static void longestLineage() {
-        StringBuilder due = new StringBuilder("39");
-        for (int version = 38; version >= 0; version--) {
-            due.append('<').append(version);
-        }
-        Check.same("lineage", Check.lineageOf(Check.full(), 39), due.toString());
-        Check.same("its length", Check.full().lineage(39), 109);
-    }
-
-    private static void character() {
-        AbbeyLedgers x = new AbbeyLedgers();
-        Check.noIndex("character(0) at first", x, () -> x.character(0));
-        x.write(0, 3, 5);
-        x.line(1);
-        Check.same("character(0)", x.character(0), '3');
-        Check.same("character(1)", x.character(1), '=');
-        Check.same("character(2)", x.character(2), '5');
-        for (int index : new int[] {Integer.MIN_VALUE, -1, 3, 108, 109, 110, Integer.MAX_VALUE}) {
-            Check.noIndex("character", x, () -> x.character(index));
-        }
-        Check.noIndex("line(9)", x, () -> x.line(9));
-        Check.noIndex("lineage(9)", x, () -> x.lineage(9));
-        x.undo();
-        Check.same("the line stays", Check.script(x, 3), "3=5");
-        x.save();
-        x.restore();
-        Check.same("the line stays", Check.script(x, 3), "3=5");
     }
 
     private static void mean() {
@@ -105,36 +61,28 @@ final class LinesTest {
         Check.that("57 of 93", x.spared() == 57.0f / 93.0f);
         x.undo();
         Check.that("26 of 62 again", x.spared() == 26.0f / 62.0f);
-        Check.that("1014 of 1240", Check.full().spared() == 1014.0f / 1240.0f);
-    }
-
-    private static String accounts(AbbeyLedgers x) {
-        StringBuilder text = new StringBuilder();
-        for (int what = 0; what <= 8; what++) {
-            text.append(what == 0 ? "" : " ").append(x.account(what));
-        }
-        return text.toString();
+        Check.that("1014 of 1240", Samples.full().spared() == 1014.0f / 1240.0f);
     }
 
     private static void account() {
         AbbeyLedgers x = new AbbeyLedgers();
-        Check.same("accounts", accounts(x), "1 0 31 1 1 0 0 0 0");
+        Check.same("accounts", Seen.accounts(x), "1 0 31 1 1 0 0 0 0");
         x.write(0, 3, 120);
-        Check.same("accounts", accounts(x), "2 0 36 2 1 1 0 1 0");
+        Check.same("accounts", Seen.accounts(x), "2 0 36 2 1 1 0 1 0");
         x.write(1, 3, 120);
         x.pass(7);
-        Check.same("accounts", accounts(x), "3 7 41 3 2 2 0 3 0");
+        Check.same("accounts", Seen.accounts(x), "3 7 41 3 2 2 0 3 0");
         x.graft(2, 1, 0, 7);
         x.fork(3, 2);
-        Check.same("accounts", accounts(x), "4 7 42 3 3 2 1 5 0");
+        Check.same("accounts", Seen.accounts(x), "4 7 42 3 3 2 1 5 0");
         x.back(0, 1);
         x.append('y');
         x.append('1');
-        Check.same("accounts", accounts(x), "4 7 42 3 3 2 1 6 2");
+        Check.same("accounts", Seen.accounts(x), "4 7 42 3 3 2 1 6 2");
         x.commands();
         x.fork(1, 2);
         x.fork(0, 1);
-        Check.same("accounts", accounts(x), "4 8 42 1 3 2 1 8 0");
+        Check.same("accounts", Seen.accounts(x), "4 8 42 1 3 2 1 8 0");
     }
 
     private static void accountOfPages() {
@@ -149,19 +97,5 @@ final class LinesTest {
         }
         Check.same("pages made by all", x.account(2), pages);
         Check.same("pages made by all", x.account(2), 31 + 5 + 5 + 0 + 4);
-    }
-
-    private static void wrongOnes() {
-        AbbeyLedgers x = new AbbeyLedgers();
-        x.write(0, 0, 1);
-        x.write(0, 0, 2);
-        for (int v : NO_VERSION) {
-            Check.noIndex("line", x, () -> x.line(v));
-            Check.noIndex("lineage", x, () -> x.lineage(v));
-            Check.noIndex("mean", x, () -> x.mean(v));
-        }
-        for (int what : new int[] {Integer.MIN_VALUE, -1, 9, Integer.MAX_VALUE}) {
-            Check.noArgument("account", x, () -> x.account(what));
-        }
     }
 }

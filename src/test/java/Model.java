@@ -14,7 +14,8 @@ final class Model {
     private static final Pattern TEXT;
 
     static {
-        String command = "(?:w\\d/\\d{1,2}=\\d{1,3}|g\\d/\\d{1,2}:\\d{1,2}-\\d{1,2}|f\\d<\\d|b\\d\\*\\d{1,2}|y\\d{1,2})";
+        String command = "(?:w\\d/\\d{1,2}=\\d{1,3}|g\\d/\\d{1,2}:\\d{1,2}-\\d{1,2}|f\\d<\\d|b\\d\\*\\d{1,2}"
+            + "|y\\d{1,2})";
         TEXT = Pattern.compile(command + "(?:;" + command + ")*");
     }
 

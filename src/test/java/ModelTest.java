@@ -2,8 +2,14 @@ import java.util.Random;
 
 /** Long runs of calls, the same ones each time, on the class and on the model. */
 final class ModelTest {
-    private static final int RUNS = 200;
+    private static final int RUNS = 6000;
+
+    // An object is used for so many calls.
     private static final int CALLS = 512;
+
+    // One character more than there is room for, commands, faultPosition, and three times reason.
+    private static final int LONGEST_TEXT = 61;
+    private static final int LONGEST_STEP = LONGEST_TEXT + 5;
     private static final int[] FAR = {Integer.MIN_VALUE, -2, -1, 40, 41, 1000, Integer.MAX_VALUE};
     private static final String SIGNS = "wgfby/=:-<*;0123456789";
 
@@ -14,6 +20,7 @@ final class ModelTest {
     private final int changes;
     private final int undoings;
     private int versions = 1;
+    private int calls = 0;
 
     private interface Call {
         double answer();
@@ -29,11 +36,9 @@ final class ModelTest {
     public static void main(String[] args) {
         for (int seed = 0; seed < RUNS; seed++) {
             ModelTest test = new ModelTest(seed);
-            int call = 0;
             boolean goesOn = true;
-            while (goesOn && call < CALLS) {
-                goesOn = test.step("run " + seed + ", call " + call);
-                call++;
+            while (goesOn && test.calls <= CALLS - LONGEST_STEP) {
+                goesOn = test.step("run " + seed + ", call " + test.calls);
             }
         }
         Check.end("ModelTest");
@@ -46,7 +51,7 @@ final class ModelTest {
             holds = change(where);
         } else if (dice < changes + undoings) {
             holds = past(where);
-        } else if (random.nextInt(6) == 0) {
+        } else if (random.nextInt(20) == 0) {
             holds = text(where);
         } else {
             holds = read(where);
@@ -56,6 +61,7 @@ final class ModelTest {
     }
 
     private boolean same(String what, Call got, Call due) {
+        calls++;
         String one = told(got);
         String other = told(due);
         Check.same(what, one, other);
@@ -151,7 +157,7 @@ final class ModelTest {
         if (random.nextInt(3) == 0) {
             spoil(text);
         }
-        for (int i = 0; i < text.length(); i++) {
+        for (int i = 0; i < Math.min(text.length(), LONGEST_TEXT); i++) {
             char sign = text.charAt(i);
             if (!same(where + ": append " + (int) sign, () -> x.append(sign), () -> model.append(sign))) {
                 return false;
@@ -163,7 +169,8 @@ final class ModelTest {
 
     private void spoil(StringBuilder text) {
         int at = random.nextInt(text.length());
-        char sign = random.nextInt(8) == 0 ? (char) random.nextInt(65536) : SIGNS.charAt(random.nextInt(SIGNS.length()));
+        boolean isAny = random.nextInt(8) == 0;
+        char sign = isAny ? (char) random.nextInt(65536) : SIGNS.charAt(random.nextInt(SIGNS.length()));
         switch (random.nextInt(4)) {
             case 0:
                 text.setCharAt(at, sign);
@@ -202,62 +209,114 @@ final class ModelTest {
     }
 
     private boolean read(String where) {
-        int v = version();
-        int w = version();
+        switch (random.nextInt(6)) {
+            case 0:
+                return readVersion(where, version());
+            case 1:
+                return readTwo(where, version(), version());
+            case 2:
+                return readLines(where, version());
+            case 3:
+                return readSpan(where, version(), upTo(random.nextInt(30) == 0 ? 31 : 30));
+            case 4:
+                return readNumber(where, upTo(9));
+            default:
+                return readWritten(where, version(), upTo(20));
+        }
+    }
+
+    private boolean readVersion(String where, int v) {
+        String what = where + ", version " + v;
+        int line = line();
+        int total = upTo(random.nextBoolean() ? 20 : 16000);
+        switch (random.nextInt(5)) {
+            case 0:
+                return same(what + ": amount " + line, () -> x.amount(v, line), () -> model.amount(v, line));
+            case 1:
+                return same(what + ": since " + line, () -> x.since(v, line), () -> model.since(v, line));
+            case 2:
+                return same(what + ": reached " + total, () -> x.reached(v, total), () -> model.reached(v, total));
+            case 3:
+                return same(what + ": alike", () -> x.alike(v), () -> model.alike(v));
+            default:
+                return same(what + ": mean", () -> x.mean(v), () -> model.mean(v));
+        }
+    }
+
+    private boolean readTwo(String where, int v, int w) {
+        String what = where + ", versions " + v + " and " + w;
+        switch (random.nextInt(4)) {
+            case 0:
+                return same(what + ": common", () -> x.common(v, w), () -> model.common(v, w));
+            case 1:
+                return same(what + ": apart", () -> x.apart(v, w), () -> model.apart(v, w));
+            case 2:
+                return same(what + ": shared", () -> x.shared(v, w), () -> model.shared(v, w));
+            default:
+                return same(what + ": isOf", () -> x.isOf(v, w) ? 1 : 0, () -> model.isOf(v, w) ? 1 : 0);
+        }
+    }
+
+    private boolean readLines(String where, int v) {
         int first = line();
         int last = random.nextInt(10) == 0 ? line() : Math.max(first, Math.min(15, first + random.nextInt(16)));
-        int span = upTo(random.nextInt(30) == 0 ? 31 : 30);
-        int year = upTo(random.nextInt(20) == 0 ? 100 : 40);
-        int what = upTo(9);
+        String what = where + ", version " + v + ", lines " + first + " to " + last;
+        switch (random.nextInt(4)) {
+            case 0:
+                return same(what + ": sum", () -> x.sum(v, first, last), () -> model.sum(v, first, last));
+            case 1:
+                return same(what + ": sumAgain", () -> x.sumAgain(v, first, last), () -> model.sum(v, first, last));
+            case 2:
+                return same(what + ": most", () -> x.most(v, first, last), () -> model.most(v, first, last));
+            default:
+                return same(what + ": wouldMake", () -> x.wouldMake(first, last), () -> model.wouldMake(first, last));
+        }
+    }
+
+    private boolean readSpan(String where, int v, int span) {
+        String what = where + ", version " + v + ", span " + span;
+        return random.nextBoolean()
+            ? same(what + ": maker", () -> x.maker(v, span), () -> model.maker(v, span))
+            : same(what + ": users", () -> x.users(v, span), () -> model.users(v, span));
+    }
+
+    private boolean readNumber(String where, int number) {
+        String what = where + ", number " + number;
+        int v = version();
         int house = house();
-        int total = upTo(random.nextBoolean() ? 20 : 16000);
-        return readVersions(where, v, w, first, total) && readSpans(where, v, first, last, span)
-            && readNumbers(where, v, what, house, year) && readRest(where, v, what);
+        int year = upTo(random.nextInt(20) == 0 ? 100 : 40);
+        switch (random.nextInt(6)) {
+            case 0:
+                return same(what + ": versionOf " + v, () -> x.versionOf(v, number), () -> model.versionOf(v, number));
+            case 1:
+                return same(what + ": account", () -> x.account(number), () -> model.account(number));
+            case 2:
+                return same(what + ": reason", () -> x.reason(number), () -> model.reason(number));
+            case 3:
+                return same(where + ": ledger " + house, () -> x.ledger(house), () -> model.ledger(house));
+            case 4:
+                return same(where + ": had " + house + " " + year, () -> x.had(house, year),
+                    () -> model.had(house, year));
+            default:
+                return same(where + ": faultPosition", x::faultPosition, model::faultPosition);
+        }
     }
 
-    private boolean readVersions(String where, int v, int w, int line, int total) {
-        String what = where + ", version " + v + ", other " + w + ", line " + line + ", sum " + total;
-        return same(what + ": amount", () -> x.amount(v, line), () -> model.amount(v, line))
-            && same(what + ": reached", () -> x.reached(v, total), () -> model.reached(v, total))
-            && same(what + ": since", () -> x.since(v, line), () -> model.since(v, line))
-            && same(what + ": common", () -> x.common(v, w), () -> model.common(v, w))
-            && same(what + ": apart", () -> x.apart(v, w), () -> model.apart(v, w))
-            && same(what + ": shared", () -> x.shared(v, w), () -> model.shared(v, w))
-            && same(what + ": isOf", () -> x.isOf(v, w) ? 1 : 0, () -> model.isOf(v, w) ? 1 : 0)
-            && same(what + ": alike", () -> x.alike(v), () -> model.alike(v));
-    }
-
-    private boolean readSpans(String where, int v, int first, int last, int span) {
-        String what = where + ", version " + v + ", lines " + first + " to " + last + ", span " + span;
-        return same(what + ": sum", () -> x.sum(v, first, last), () -> model.sum(v, first, last))
-            && same(what + ": sumAgain", () -> x.sumAgain(v, first, last), () -> model.sum(v, first, last))
-            && same(what + ": most", () -> x.most(v, first, last), () -> model.most(v, first, last))
-            && same(what + ": maker", () -> x.maker(v, span), () -> model.maker(v, span))
-            && same(what + ": users", () -> x.users(v, span), () -> model.users(v, span))
-            && same(what + ": wouldMake", () -> x.wouldMake(first, last), () -> model.wouldMake(first, last));
-    }
-
-    private boolean readNumbers(String where, int v, int number, int house, int year) {
-        String what = where + ", version " + v + ", number " + number + ", house " + house + ", year " + year;
-        return same(what + ": versionOf", () -> x.versionOf(v, number), () -> model.versionOf(v, number))
-            && same(what + ": account", () -> x.account(number), () -> model.account(number))
-            && same(what + ": reason", () -> x.reason(number), () -> model.reason(number))
-            && same(what + ": ledger", () -> x.ledger(house), () -> model.ledger(house))
-            && same(what + ": had", () -> x.had(house, year), () -> model.had(house, year))
-            && same(what + ": faultPosition", x::faultPosition, model::faultPosition);
-    }
-
-    private boolean readRest(String where, int v, int number) {
-        String what = where + ", version " + v + ", number " + number;
-        int place = version();
-        int index = upTo(20);
-        boolean ofLine = random.nextBoolean();
-        return same(what + ": richest " + place, () -> x.richest(place), () -> model.richest(place))
-            && same(what + ": busiest", x::busiest, model::busiest)
-            && same(what + ": mean", () -> x.mean(v), () -> model.mean(v))
-            && same(what + ": spared", x::spared, model::spared)
-            && same(what + (ofLine ? ": line" : ": lineage"), () -> ofLine ? x.line(v) : x.lineage(v),
-                () -> ofLine ? model.line(v) : model.lineage(v))
-            && same(what + ": character " + index, () -> x.character(index), () -> model.character(index));
+    private boolean readWritten(String where, int v, int number) {
+        String what = where + ", version " + v;
+        switch (random.nextInt(6)) {
+            case 0:
+                return same(what + ": richest", () -> x.richest(v), () -> model.richest(v));
+            case 1:
+                return same(what + ": busiest", x::busiest, model::busiest);
+            case 2:
+                return same(what + ": spared", x::spared, model::spared);
+            case 3:
+                return same(what + ": line", () -> x.line(v), () -> model.line(v));
+            case 4:
+                return same(what + ": lineage", () -> x.lineage(v), () -> model.lineage(v));
+            default:
+                return same(what + ": character " + number, () -> x.character(number), () -> model.character(number));
+        }
     }
 }

@@ -1,12 +1,9 @@
 /** Promises 7 to 25: what is read of versions, pages and houses. */
 final class ReadingTest {
-    private static final int[] FAR = {Integer.MIN_VALUE, -1, Integer.MAX_VALUE};
-
     public static void main(String[] args) {
         ledger();
         amount();
         sums();
-        sumsOfAllSpans();
         most();
         reached();
         versionOf();
@@ -22,43 +19,16 @@ final class ReadingTest {
         alike();
         richest();
         busiest();
-        wrongVersions();
-        wrongLines();
         Check.end("ReadingTest");
     }
 
-    /** The versions 1 to 4 in a tree: 1 and 2 of the house 0, 3 from 2 by the house 1, 4 from 1 by the house 0. */
-    private static AbbeyLedgers tree() {
-        AbbeyLedgers x = new AbbeyLedgers();
-        x.write(0, 3, 120);
-        x.write(0, 15, 7);
-        x.fork(1, 0);
-        x.pass(2);
-        x.write(1, 3, 5);
-        x.back(0, 1);
-        x.write(0, 4, 9);
-        return x;
-    }
-
-    private static AbbeyLedgers stairs() {
-        AbbeyLedgers x = new AbbeyLedgers();
-        for (int line = 0; line < 16; line++) {
-            x.write(0, line, 1 << line % 9);
-        }
-        return x;
-    }
-
     private static void ledger() {
-        AbbeyLedgers x = tree();
-        Check.same("ledgers", Check.ledgers(x), "4 3 0 0");
-        for (int far : FAR) {
-            Check.noIndex("ledger", x, () -> x.ledger(far));
-        }
-        Check.noIndex("ledger(4)", x, () -> x.ledger(4));
+        AbbeyLedgers x = Samples.tree();
+        Check.same("ledgers", Seen.ledgers(x), "4 3 0 0");
     }
 
     private static void amount() {
-        AbbeyLedgers x = tree();
+        AbbeyLedgers x = Samples.tree();
         Check.same("amount(2, 3)", x.amount(2, 3), 120);
         Check.same("amount(3, 3)", x.amount(3, 3), 5);
         Check.same("amount(3, 15)", x.amount(3, 15), 7);
@@ -67,7 +37,7 @@ final class ReadingTest {
     }
 
     private static void sums() {
-        AbbeyLedgers x = tree();
+        AbbeyLedgers x = Samples.tree();
         Check.same("sum", x.sum(2, 0, 15), 127);
         Check.same("sum", x.sum(2, 3, 14), 120);
         Check.same("sum", x.sum(2, 4, 14), 0);
@@ -82,18 +52,6 @@ final class ReadingTest {
         }
         Check.same("the greatest sum", rich.sum(16, 0, 15), 15984);
         Check.same("the greatest sum", rich.sumAgain(16, 0, 15), 15984);
-    }
-
-    private static void sumsOfAllSpans() {
-        AbbeyLedgers x = stairs();
-        for (int first = 0; first < 16; first++) {
-            int due = 0;
-            for (int last = first; last < 16; last++) {
-                due += 1 << last % 9;
-                Check.same("sum(16, " + first + ", " + last + ")", x.sum(16, first, last), due);
-                Check.same("sumAgain(16, " + first + ", " + last + ")", x.sumAgain(16, first, last), due);
-            }
-        }
     }
 
     private static void most() {
@@ -123,61 +81,35 @@ final class ReadingTest {
         Check.same("reached", x.reached(2, 10), 2);
         Check.same("reached", x.reached(2, 11), 9);
         Check.same("reached", x.reached(2, 30), 9);
-        Check.noElement("reached(2, 31)", x, () -> x.reached(2, 31));
-        Check.noElement("reached(1, 11)", x, () -> x.reached(1, 11));
-        Check.noElement("reached(2, much)", x, () -> x.reached(2, Integer.MAX_VALUE));
-        Check.noElement("reached(0, 1)", x, () -> x.reached(0, 1));
         x.write(0, 15, 1);
         Check.same("reached at the end", x.reached(3, 31), 15);
-        Check.noIndex("reached(4, 99)", x, () -> x.reached(4, 99));
-    }
-
-    private static String numbers(AbbeyLedgers x, int version) {
-        StringBuilder text = new StringBuilder();
-        for (int what = 0; what <= 6; what++) {
-            text.append(what == 0 ? "" : " ").append(x.versionOf(version, what));
-        }
-        return text.toString();
     }
 
     private static void versionOf() {
-        AbbeyLedgers x = tree();
-        Check.same("numbers of 0", numbers(x, 0), "-1 0 0 1 31 0 2");
-        Check.same("numbers of 1", numbers(x, 1), "0 0 1 2 5 1 0");
-        Check.same("numbers of 2", numbers(x, 2), "1 0 2 1 5 1 0");
-        Check.same("numbers of 3", numbers(x, 3), "2 2 3 0 5 1 1");
-        Check.same("numbers of 4", numbers(x, 4), "1 2 2 0 5 1 1");
+        AbbeyLedgers x = Samples.tree();
+        Check.same("numbers of 0", Seen.numbers(x, 0), "-1 0 0 1 31 0 2");
+        Check.same("numbers of 1", Seen.numbers(x, 1), "0 0 1 2 5 1 0");
+        Check.same("numbers of 2", Seen.numbers(x, 2), "1 0 2 1 5 1 0");
+        Check.same("numbers of 3", Seen.numbers(x, 3), "2 2 3 0 5 1 1");
+        Check.same("numbers of 4", Seen.numbers(x, 4), "1 2 2 0 5 1 1");
         x.graft(2, 3, 0, 15);
         x.fork(3, 2);
-        Check.same("numbers of 5", numbers(x, 5), "0 2 1 0 0 2 2");
-        Check.same("numbers of 0 then", numbers(x, 0), "-1 0 0 2 31 0 0");
-        for (int far : FAR) {
-            Check.noArgument("versionOf", x, () -> x.versionOf(0, far));
-            Check.noIndex("versionOf", x, () -> x.versionOf(6, far));
-        }
-        Check.noArgument("versionOf(0, 7)", x, () -> x.versionOf(0, 7));
-        Check.same("ancestors of the last", Check.full().versionOf(39, 2), 39);
-        Check.same("new lines of the last", Check.full().versionOf(39, 5), 1);
+        Check.same("numbers of 5", Seen.numbers(x, 5), "0 2 1 0 0 2 2");
+        Check.same("numbers of 0 then", Seen.numbers(x, 0), "-1 0 0 2 31 0 0");
+        Check.same("ancestors of the last", Samples.full().versionOf(39, 2), 39);
+        Check.same("new lines of the last", Samples.full().versionOf(39, 5), 1);
     }
 
     private static void maker() {
-        AbbeyLedgers x = tree();
-        Check.same("makers", Check.makers(x, 3),
+        AbbeyLedgers x = Samples.tree();
+        Check.same("makers", Seen.makers(x, 3),
             "3 3 2 3 0 0 2 0 3 0 0 0 0 0 2 0 0 0 3 0 0 0 0 0 0 0 0 0 0 0 2");
-        Check.same("makers", Check.makers(x, 4),
+        Check.same("makers", Seen.makers(x, 4),
             "4 4 0 1 4 0 0 0 1 4 0 0 0 0 0 0 0 0 1 4 0 0 0 0 0 0 0 0 0 0 0");
-        for (int far : FAR) {
-            Check.noArgument("maker", x, () -> x.maker(0, far));
-            Check.noIndex("maker", x, () -> x.maker(5, far));
-            Check.noArgument("users", x, () -> x.users(0, far));
-            Check.noIndex("users", x, () -> x.users(5, far));
-        }
-        Check.noArgument("maker(0, 31)", x, () -> x.maker(0, 31));
-        Check.noArgument("users(0, 31)", x, () -> x.users(0, 31));
     }
 
     private static void had() {
-        AbbeyLedgers x = tree();
+        AbbeyLedgers x = Samples.tree();
         Check.same("had(1, 0)", x.had(1, 0), 2);
         Check.same("had(1, 1)", x.had(1, 1), 2);
         Check.same("had(1, 2)", x.had(1, 2), 3);
@@ -191,13 +123,6 @@ final class ReadingTest {
         late.write(0, 0, 2);
         Check.same("had ahead of all", late.had(0, 4), 0);
         Check.same("had, the latest of a year", late.had(0, 5), 2);
-        for (int far : FAR) {
-            Check.noIndex("had", x, () -> x.had(far, 0));
-            Check.noArgument("had", x, () -> x.had(0, far));
-            Check.noIndex("had", x, () -> x.had(4, far));
-        }
-        Check.noIndex("had(4, 0)", x, () -> x.had(4, 0));
-        Check.noArgument("had(0, 100)", x, () -> x.had(0, 100));
     }
 
     private static void since() {
@@ -220,11 +145,11 @@ final class ReadingTest {
         Check.same("since, by a graft of the same amount", x.graft(1, 6, 0, 7), 7);
         Check.same("since(7, 3)", x.since(7, 3), 0);
         Check.same("since(7, 7)", x.since(7, 7), 7);
-        Check.same("since the start of all", Check.full().since(39, 1), 0);
+        Check.same("since the start of all", Samples.full().since(39, 1), 0);
     }
 
     private static void common() {
-        AbbeyLedgers x = tree();
+        AbbeyLedgers x = Samples.tree();
         Check.same("common(3, 4)", x.common(3, 4), 1);
         Check.same("common(4, 3)", x.common(4, 3), 1);
         Check.same("common(2, 3)", x.common(2, 3), 2);
@@ -233,11 +158,11 @@ final class ReadingTest {
         Check.same("common(0, 4)", x.common(0, 4), 0);
         x.write(2, 0, 1);
         Check.same("common(5, 4)", x.common(5, 4), 0);
-        Check.same("common, far", Check.full().common(39, 0), 0);
+        Check.same("common, far", Samples.full().common(39, 0), 0);
     }
 
     private static void apart() {
-        AbbeyLedgers x = tree();
+        AbbeyLedgers x = Samples.tree();
         Check.same("apart(3, 4)", x.apart(3, 4), 3);
         Check.same("apart(4, 3)", x.apart(4, 3), 3);
         Check.same("apart(2, 1)", x.apart(2, 1), 1);
@@ -245,12 +170,12 @@ final class ReadingTest {
         Check.same("apart(2, 0)", x.apart(2, 0), 2);
         x.write(1, 3, 120);
         Check.same("apart in no amount on one line", x.apart(5, 2), 0);
-        Check.same("apart on the line 0", Check.full().apart(39, 0), 1);
+        Check.same("apart on the line 0", Samples.full().apart(39, 0), 1);
         Check.same("apart on the line 15", x.apart(1, 2), 1);
     }
 
     private static void shared() {
-        AbbeyLedgers x = tree();
+        AbbeyLedgers x = Samples.tree();
         Check.same("shared(3, 4)", x.shared(3, 4), 19);
         Check.same("shared(4, 3)", x.shared(4, 3), 19);
         Check.same("shared(3, 3)", x.shared(3, 3), 31);
@@ -262,7 +187,7 @@ final class ReadingTest {
     }
 
     private static void isOf() {
-        AbbeyLedgers x = tree();
+        AbbeyLedgers x = Samples.tree();
         Check.that("1 of 4", x.isOf(1, 4));
         Check.that("4 not of 1", !x.isOf(4, 1));
         Check.that("2 not of 4", !x.isOf(2, 4));
@@ -273,7 +198,7 @@ final class ReadingTest {
     }
 
     private static void users() {
-        AbbeyLedgers x = tree();
+        AbbeyLedgers x = Samples.tree();
         Check.same("users(0, 0)", x.users(0, 0), 1);
         Check.same("users(1, 3)", x.users(1, 3), 3);
         Check.same("users(2, 3)", x.users(2, 3), 3);
@@ -304,21 +229,10 @@ final class ReadingTest {
             }
             larger++;
         }
-        for (int line = 0; line < 16; line++) {
-            x.write(0, line, line + 1);
-        }
-        for (int first = 0; first < 16; first++) {
-            for (int last = first; last < 16; last++) {
-                int version = x.graft(1, 16, first, last);
-                Check.same("wouldMake(" + first + ", " + last + ")", x.wouldMake(first, last),
-                    x.versionOf(version, 4));
-                x.undo();
-            }
-        }
     }
 
     private static void alike() {
-        AbbeyLedgers x = tree();
+        AbbeyLedgers x = Samples.tree();
         Check.same("alike(0)", x.alike(0), 0);
         x.write(0, 4, 0);
         Check.same("alike(5)", x.alike(5), 1);
@@ -336,7 +250,7 @@ final class ReadingTest {
     }
 
     private static void richest() {
-        AbbeyLedgers x = tree();
+        AbbeyLedgers x = Samples.tree();
         Check.same("richest(0)", x.richest(0), 4);
         Check.same("richest(1)", x.richest(1), 2);
         Check.same("richest(2)", x.richest(2), 1);
@@ -345,16 +259,11 @@ final class ReadingTest {
         x.write(2, 8, 120);
         Check.same("of several the latest", x.richest(2), 5);
         Check.same("of several the latest", x.richest(3), 1);
-        for (int far : FAR) {
-            Check.noElement("richest", x, () -> x.richest(far));
-        }
-        Check.noElement("richest(6)", x, () -> x.richest(6));
         Check.same("richest(5)", x.richest(5), 0);
     }
 
     private static void busiest() {
         AbbeyLedgers x = new AbbeyLedgers();
-        Check.noElement("busiest", x, () -> x.busiest());
         x.write(0, 3, 1);
         Check.same("the only one", x.busiest(), 1);
         x.write(0, 3, 2);
@@ -378,53 +287,5 @@ final class ReadingTest {
         y.write(1, 3, 2);
         y.graft(2, 2, 3, 3);
         Check.same("a single page", y.busiest(), 2);
-    }
-
-    private static void wrongVersions() {
-        AbbeyLedgers x = tree();
-        int[] none = {Integer.MIN_VALUE, -1, 5, 40, Integer.MAX_VALUE};
-        for (int v : none) {
-            Check.noIndex("amount", x, () -> x.amount(v, 16));
-            Check.noIndex("sum", x, () -> x.sum(v, 1, 0));
-            Check.noIndex("sumAgain", x, () -> x.sumAgain(v, 1, 0));
-            Check.noIndex("most", x, () -> x.most(v, 1, 0));
-            Check.noIndex("reached", x, () -> x.reached(v, 20000));
-            Check.noIndex("versionOf", x, () -> x.versionOf(v, 7));
-            Check.noIndex("maker", x, () -> x.maker(v, 31));
-            Check.noIndex("since", x, () -> x.since(v, 16));
-            Check.noIndex("common", x, () -> x.common(v, 0));
-            Check.noIndex("common", x, () -> x.common(0, v));
-            Check.noIndex("apart", x, () -> x.apart(v, 0));
-            Check.noIndex("apart", x, () -> x.apart(0, v));
-            Check.noIndex("shared", x, () -> x.shared(v, 0));
-            Check.noIndex("shared", x, () -> x.shared(0, v));
-            Check.noIndex("isOf", x, () -> x.isOf(v, 0));
-            Check.noIndex("isOf", x, () -> x.isOf(0, v));
-            Check.noIndex("users", x, () -> x.users(v, 31));
-            Check.noIndex("alike", x, () -> x.alike(v));
-        }
-        x.undo();
-        Check.noIndex("amount of one undone", x, () -> x.amount(4, 0));
-    }
-
-    private static void wrongLines() {
-        AbbeyLedgers x = tree();
-        int[] none = {Integer.MIN_VALUE, -1, 16, Integer.MAX_VALUE};
-        for (int line : none) {
-            Check.noArgument("amount", x, () -> x.amount(1, line));
-            Check.noArgument("since", x, () -> x.since(1, line));
-            wrongSpan(x, line, 15);
-            wrongSpan(x, 0, line);
-        }
-        wrongSpan(x, 1, 0);
-        wrongSpan(x, 15, 0);
-        wrongSpan(x, 15, 14);
-    }
-
-    private static void wrongSpan(AbbeyLedgers x, int first, int last) {
-        Check.noArgument("sum", x, () -> x.sum(1, first, last));
-        Check.noArgument("sumAgain", x, () -> x.sumAgain(1, first, last));
-        Check.noArgument("most", x, () -> x.most(1, first, last));
-        Check.noArgument("wouldMake", x, () -> x.wouldMake(first, last));
     }
 }

@@ -18,7 +18,6 @@ import java.util.stream.Collectors;
 /** The face that the document shows, and what of the rules of LANGUAGE.md can be seen from outside. */
 final class RulesTest {
     private static final Path SOURCE = Path.of("src/main/java/AbbeyLedgers.java");
-    private static final Path DOCUMENT = Path.of("../shared/DOC.md");
     private static final int CALLS = 512;
 
     private interface Call {
@@ -27,7 +26,7 @@ final class RulesTest {
 
     public static void main(String[] args) throws IOException {
         String source = Files.readString(SOURCE, StandardCharsets.UTF_8);
-        face(Files.readString(DOCUMENT, StandardCharsets.UTF_8));
+        face(Document.text());
         members();
         words(source);
         exceptions(source);
@@ -139,7 +138,7 @@ final class RulesTest {
 
     // Refused calls are left out: what they make is the exception, which the document wants.
     private static void room() {
-        AbbeyLedgers x = Check.full();
+        AbbeyLedgers x = Samples.full();
         x.save();
         small("sum", () -> x.sum(39, 1, 14));
         small("sumAgain", () -> x.sumAgain(39, 1, 14));
@@ -174,7 +173,7 @@ final class RulesTest {
             z.undo();
         });
         small("commands", () -> {
-            Check.fill(z, "w0/1=1;f3<0;b0*1;g2/1:0-9;y9");
+            Samples.fill(z, "w0/1=1;f3<0;b0*1;g2/1:0-9;y9");
             z.commands();
             z.undo();
         });
