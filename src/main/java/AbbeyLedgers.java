@@ -301,7 +301,7 @@ public final class AbbeyLedgers {
 
     public float spared() {
         int all = versions.size() * SPANS;
-        return (float) (all - versions.pagesMade()) / (float) all;
+        return all > 0 ? (float) (all - versions.pagesMade()) / (float) all : 0.0f;
     }
 
     public int account(int what) throws IllegalArgumentException {
