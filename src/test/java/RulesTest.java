@@ -20,10 +20,6 @@ final class RulesTest {
     private static final Path SOURCE = Path.of("src/main/java/AbbeyLedgers.java");
     private static final int CALLS = 512;
 
-    private interface Call {
-        void run();
-    }
-
     public static void main(String[] args) throws IOException {
         String source = Files.readString(SOURCE, StandardCharsets.UTF_8);
         face(Document.text());
@@ -37,13 +33,9 @@ final class RulesTest {
 
     private static void face(String document) {
         Set<String> due = new TreeSet<>();
-        Pattern method = Pattern.compile("\n    public (\\w+) (\\w+)\\(([^)]*)\\)(?: throws ([\\w, ]+))?;");
-        Matcher matcher = method.matcher(document);
-        while (matcher.find()) {
-            String types = Arrays.stream(matcher.group(3).split(", ")).map(p -> p.split(" ")[0])
-                .collect(Collectors.joining(","));
-            String thrown = matcher.group(4) == null ? "" : matcher.group(4).replace(" ", "");
-            due.add(matcher.group(1) + " " + matcher.group(2) + "(" + types + ") " + thrown);
+        for (Call call : Call.allOf(document)) {
+            due.add(call.type() + " " + call.name() + "(" + String.join(",", call.types()) + ") "
+                + String.join(",", call.thrown()));
         }
         Set<String> found = new TreeSet<>();
         for (Method m : AbbeyLedgers.class.getDeclaredMethods()) {
@@ -179,7 +171,7 @@ final class RulesTest {
         });
     }
 
-    private static void small(String what, Call call) {
+    private static void small(String what, Runnable call) {
         call.run();
         var threads = (com.sun.management.ThreadMXBean) ManagementFactory.getThreadMXBean();
         long id = Thread.currentThread().getId();
